@@ -1,0 +1,87 @@
+/** What the tests share: comparing answers, counting the wrong ones, and looking at a whole fabric. */
+final class Check {
+    private static int wrong = 0;
+    private static int made = 0;
+
+    private Check() {
+    }
+
+    static void due(String what, long got, long want) {
+        made++;
+        if (got != want) {
+            wrong++;
+            System.out.println("  " + what + " answered " + got + ", due is " + want);
+        }
+    }
+
+    static void due(String what, String got, String want) {
+        made++;
+        if (!got.equals(want)) {
+            wrong++;
+            System.out.println("  " + what + " answered " + got + ", due is " + want);
+        }
+    }
+
+    static void illegalArgument(String what, Fabricsim x, Runnable call) {
+        refused(what, x, call, "IllegalArgumentException");
+    }
+
+    static void illegalState(String what, Fabricsim x, Runnable call) {
+        refused(what, x, call, "IllegalStateException");
+    }
+
+    static void noSuchFlow(String what, Fabricsim x, Runnable call) {
+        refused(what, x, call, "IndexOutOfBoundsException");
+    }
+
+    /** The call throws exactly this exception, and changes nothing that can be looked at. */
+    private static void refused(String what, Fabricsim x, Runnable call, String want) {
+        String before = look(x);
+        due(what + " throws", thrownBy(call), want);
+        due("the state behind the refused " + what, look(x), before);
+    }
+
+    static String thrownBy(Runnable call) {
+        try {
+            call.run();
+            return "nothing";
+        } catch (RuntimeException e) {
+            return e.getClass().getSimpleName();
+        }
+    }
+
+    /** Every answer that a fabric gives about itself, as one text. */
+    static String look(Fabricsim x) {
+        StringBuilder text = new StringBuilder();
+        text.append("clock ").append(x.clock()).append(" returning ").append(x.returning());
+        text.append(" queued ").append(x.queued()).append(" least ").append(x.leastTicks());
+        for (int f = 0; f < x.flows(); f++) {
+            text.append("\n flow ").append(f).append(": ").append(x.sent(f)).append(' ').append(x.delivered(f));
+            text.append(' ').append(x.lost(f)).append(' ').append(x.outOfOrder(f)).append(' ').append(x.doneIn(f));
+            text.append(' ').append(x.flowlets(f)).append(' ').append(x.spineOf(f));
+        }
+        for (int h = 0; h < 16; h++) {
+            text.append("\n host ").append(h).append(": ").append(x.upQueue(h)).append(' ').append(x.downQueue(h));
+            text.append(' ').append(x.upCredits(h)).append(' ').append(x.open(h));
+        }
+        for (int i = 0; i < 16; i++) {
+            int leaf = i / 4;
+            int spine = i % 4;
+            text.append("\n leaf ").append(leaf).append(" spine ").append(spine).append(": ");
+            text.append(x.northQueue(leaf, spine)).append(' ').append(x.southQueue(spine, leaf));
+            text.append(' ').append(x.northCredits(leaf, spine));
+            if (leaf != spine) {
+                text.append(" usable from leaf ").append(leaf).append(" to leaf ").append(spine);
+                text.append(": ").append(x.usable(leaf, spine));
+            }
+        }
+        return text.toString();
+    }
+
+    static void finish(String name) {
+        System.out.println(name + ": " + made + " checks, " + wrong + " wrong");
+        if (wrong != 0 || made == 0) {
+            System.exit(1);
+        }
+    }
+}
