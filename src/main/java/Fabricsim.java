@@ -14,6 +14,7 @@ public final class Fabricsim {
     private static final int SPINES = 4;
     private static final int HOSTS_OF_LEAF = 4;
     private static final int CONNECTIONS = LEAVES * SPINES;
+    private static final int ALL_SPINES = (1 << SPINES) - 1;
     private static final int FULL_CREDITS = 4;
     private static final int MOST_FLOWS = 24;
     private static final int MOST_PACKETS = 100;
@@ -34,6 +35,8 @@ public final class Fabricsim {
     private final Link[] souths = new Link[CONNECTIONS];
     private final Node[] leaves = new Node[LEAVES];
     private final Node[] spines = new Node[SPINES];
+    /** By leaf, the spines that it is connected with, uncut: bit s stands for the spine s. */
+    private final int[] uncut = new int[LEAVES];
     private int flowCount;
     private int nextTick;
     private int delay;
@@ -62,7 +65,6 @@ public final class Fabricsim {
         private int first;
         private int waiting;
         private int credits;
-        private boolean isCut;
         private int lastPlace;
         private int pickedPlace;
 
@@ -80,7 +82,6 @@ public final class Fabricsim {
             first = 0;
             waiting = 0;
             credits = FULL_CREDITS;
-            isCut = false;
             lastPlace = NONE;
             pickedPlace = NONE;
         }
@@ -119,7 +120,7 @@ public final class Fabricsim {
         /** Picks the next queue whose first packet wants this link, behind the queue picked from last. */
         private void pick(int[] wanted, int self) {
             pickedPlace = NONE;
-            if (isCut || credits == 0) {
+            if (credits == 0) {
                 return;
             }
             for (int step = 1; step <= wanted.length; step++) {
@@ -137,7 +138,10 @@ public final class Fabricsim {
     private static final class Node {
         private final Link[] in;
         private final Link[] out;
-        /** For each link to it the place in out of the link that its first packet wants; NONE if none. */
+        /**
+         * For each link to it the place in out of the link that its first packet wants; NONE if there is none,
+         * or if that link is cut, so that a cut link finds nothing to pick.
+         */
         private final int[] wanted;
 
         private Node(int linksIn, int linksOut) {
@@ -298,6 +302,9 @@ public final class Fabricsim {
         for (int i = 0; i < HOSTS; i++) {
             hosts[i].clear();
         }
+        for (int i = 0; i < LEAVES; i++) {
+            uncut[i] = ALL_SPINES;
+        }
     }
 
     // ---- setting up
@@ -332,30 +339,23 @@ public final class Fabricsim {
     /** Cuts a connection, and returns how many packets are in the queues of its two links. */
     public int cut(int leaf, int spine) throws IllegalArgumentException, IllegalStateException {
         checkConnection(leaf, spine);
-        Link north = northOf(leaf, spine);
-        Link south = southOf(spine, leaf);
-        if (north.isCut) {
+        if (isCut(leaf, spine)) {
             throw new IllegalStateException("the connection is cut");
         }
-        north.isCut = true;
-        south.isCut = true;
-        return north.waiting + south.waiting;
+        uncut[leaf] &= ~(1 << spine);
+        return northOf(leaf, spine).waiting + southOf(spine, leaf).waiting;
     }
 
     /** Restores a connection, and returns how many are still cut. */
     public int restore(int leaf, int spine) throws IllegalArgumentException, IllegalStateException {
         checkConnection(leaf, spine);
-        Link north = northOf(leaf, spine);
-        if (!north.isCut) {
+        if (!isCut(leaf, spine)) {
             throw new IllegalStateException("the connection is not cut");
         }
-        north.isCut = false;
-        southOf(spine, leaf).isCut = false;
-        int stillCut = 0;
-        for (int i = 0; i < CONNECTIONS; i++) {
-            if (norths[i].isCut) {
-                stillCut++;
-            }
+        uncut[leaf] |= 1 << spine;
+        int stillCut = CONNECTIONS;
+        for (int i = 0; i < LEAVES; i++) {
+            stillCut -= Integer.bitCount(uncut[i]);
         }
         return stillCut;
     }
@@ -507,7 +507,7 @@ public final class Fabricsim {
         }
         for (int leaf = 0; leaf < LEAVES; leaf++) {
             int most = Math.max(unsentOutOf(leaf), unsentInto(leaf));
-            int ways = Integer.bitCount(uncutSpines(leaf));
+            int ways = Integer.bitCount(uncut[leaf]);
             if (most > 0 && ways == 0) {
                 return NONE;
             }
@@ -605,7 +605,7 @@ public final class Fabricsim {
                 Link north = northOf(leaf, spine);
                 if (north.waiting > 0) {
                     Flow flow = flowRows[north.firstPacket().flow];
-                    if (southOf(spine, flow.targetLeaf()).isCut) {
+                    if (isCut(flow.targetLeaf(), spine)) {
                         flow.lostPackets++;
                         hosts[flow.target].openPackets--;
                         north.drop(slot);
@@ -648,16 +648,17 @@ public final class Fabricsim {
         for (int spine = 0; spine < SPINES; spine++) {
             Node node = spines[spine];
             for (int i = 0; i < node.in.length; i++) {
-                node.wanted[i] = wantedAtSpine(node.in[i]);
+                node.wanted[i] = wantedAtSpine(spine, node.in[i]);
             }
         }
     }
 
-    private int wantedAtSpine(Link queue) {
+    private int wantedAtSpine(int spine, Link queue) {
         if (queue.waiting == 0) {
             return NONE;
         }
-        return flowRows[queue.firstPacket().flow].targetLeaf();
+        int leaf = flowRows[queue.firstPacket().flow].targetLeaf();
+        return isCut(leaf, spine) ? NONE : leaf;
     }
 
     private void pickAll() {
@@ -752,22 +753,16 @@ public final class Fabricsim {
         return NONE;
     }
 
+    private boolean isCut(int leaf, int spine) {
+        return (uncut[leaf] >> spine & 1) == 0;
+    }
+
     private boolean isUsable(int spine, int leaf, int other) {
         return (usableSpines(leaf, other) >> spine & 1) == 1;
     }
 
     private int usableSpines(int leaf, int other) {
-        return uncutSpines(leaf) & uncutSpines(other);
-    }
-
-    private int uncutSpines(int leaf) {
-        int bits = 0;
-        for (int spine = 0; spine < SPINES; spine++) {
-            if (!northOf(leaf, spine).isCut) {
-                bits |= 1 << spine;
-            }
-        }
-        return bits;
+        return uncut[leaf] & uncut[other];
     }
 
     private Link northOf(int leaf, int spine) {

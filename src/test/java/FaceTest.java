@@ -1,0 +1,120 @@
+import java.io.IOException;
+import java.lang.reflect.Constructor;
+import java.lang.reflect.Field;
+import java.lang.reflect.Method;
+import java.lang.reflect.Modifier;
+import java.nio.file.Files;
+import java.nio.file.Path;
+import java.util.Arrays;
+import java.util.TreeSet;
+
+/** The public face to the letter, and those rules of LANGUAGE.md that the source's words show. */
+public final class FaceTest {
+    private static final String[] FACE = {
+        "void reset int int int throws IllegalArgumentException",
+        "int addFlow int int int int throws IllegalArgumentException IllegalStateException",
+        "int cut int int throws IllegalArgumentException IllegalStateException",
+        "int restore int int throws IllegalArgumentException IllegalStateException",
+        "int pass int throws IllegalArgumentException IllegalStateException",
+        "int clock throws",
+        "int flows throws",
+        "int sent int throws IndexOutOfBoundsException",
+        "int delivered int throws IndexOutOfBoundsException",
+        "int lost int throws IndexOutOfBoundsException",
+        "int outOfOrder int throws IndexOutOfBoundsException",
+        "int doneIn int throws IndexOutOfBoundsException",
+        "int flowlets int throws IndexOutOfBoundsException",
+        "int spineOf int throws IndexOutOfBoundsException",
+        "int upQueue int throws IllegalArgumentException",
+        "int downQueue int throws IllegalArgumentException",
+        "int northQueue int int throws IllegalArgumentException",
+        "int southQueue int int throws IllegalArgumentException",
+        "int upCredits int throws IllegalArgumentException",
+        "int northCredits int int throws IllegalArgumentException",
+        "int returning throws",
+        "int queued throws",
+        "int open int throws IllegalArgumentException",
+        "int usable int int throws IllegalArgumentException",
+        "int leastTicks throws",
+    };
+
+    public static void main(String[] args) throws IOException {
+        Class<?> c = Fabricsim.class;
+        Check.due("public and final", c.getModifiers() & (Modifier.PUBLIC | Modifier.FINAL),
+                Modifier.PUBLIC | Modifier.FINAL);
+        methods(c);
+        constructor(c);
+        constants(c);
+        for (Class<?> inside : c.getDeclaredClasses()) {
+            int m = inside.getModifiers();
+            Check.due(inside.getSimpleName() + " is hidden", Modifier.isPublic(m) || Modifier.isProtected(m) ? 1 : 0, 0);
+            Check.due(inside.getSimpleName() + " has some twenty fields",
+                    inside.getDeclaredFields().length <= 20 ? 1 : 0, 1);
+        }
+        Check.due("classes", c.getDeclaredClasses().length <= 11 ? 1 : 0, 1);
+        words(Files.readString(Path.of("src/main/java/Fabricsim.java")));
+        Check.finish("FaceTest");
+    }
+
+    private static void methods(Class<?> c) {
+        TreeSet<String> open = new TreeSet<>();
+        TreeSet<String> names = new TreeSet<>();
+        for (Method m : c.getDeclaredMethods()) {
+            if (!Modifier.isPrivate(m.getModifiers())) {
+                StringBuilder text = new StringBuilder(m.getReturnType().getSimpleName() + " " + m.getName());
+                for (Class<?> p : m.getParameterTypes()) {
+                    text.append(' ').append(p.getSimpleName());
+                }
+                text.append(" throws");
+                for (Class<?> e : m.getExceptionTypes()) {
+                    text.append(' ').append(e.getSimpleName());
+                }
+                open.add(text.toString());
+                names.add(m.getName());
+            }
+        }
+        Check.due("the face", open.toString(), new TreeSet<>(Arrays.asList(FACE)).toString());
+        for (Method m : c.getDeclaredMethods()) {
+            if (Modifier.isPrivate(m.getModifiers())) {
+                Check.due("a public method of the name of the private " + m.getName(),
+                        names.contains(m.getName()) ? 1 : 0, 0);
+            }
+            Check.due(m.getName() + " takes at most seven", m.getParameterCount() <= 7 ? 1 : 0, 1);
+        }
+    }
+
+    private static void constructor(Class<?> c) {
+        Constructor<?>[] all = c.getDeclaredConstructors();
+        Check.due("constructors", all.length, 1);
+        Check.due("its parameters", all[0].getParameterCount(), 0);
+        Check.due("it is public", Modifier.isPublic(all[0].getModifiers()) ? 1 : 0, 1);
+    }
+
+    private static void constants(Class<?> c) {
+        StringBuilder open = new StringBuilder();
+        int own = 0;
+        for (Field f : c.getDeclaredFields()) {
+            if (!Modifier.isPrivate(f.getModifiers())) {
+                open.append(Modifier.toString(f.getModifiers())).append(' ').append(f.getType()).append(' ');
+                open.append(f.getName());
+            }
+            if (Modifier.isStatic(f.getModifiers())) {
+                Check.due(f.getName() + " is final", Modifier.isFinal(f.getModifiers()) ? 1 : 0, 1);
+            } else {
+                own++;
+            }
+        }
+        Check.due("the constants", open.toString(), "public static final int NONE");
+        Check.due("NONE", Fabricsim.NONE, -1);
+        Check.due("some twenty fields", own <= 20 ? 1 : 0, 1);
+    }
+
+    private static void words(String source) {
+        String[] barred = {"import ", "package ", "->", "::", "finally", "synchronized", "assert", "static {",
+            "catch", "while (true)", "Exact", "Random", "System.", "Object"};
+        for (String word : barred) {
+            Check.due("places of '" + word + "'", source.indexOf(word), -1);
+        }
+        Check.due("signs beyond 127", source.chars().filter(s -> s > 127).count(), 0);
+    }
+}

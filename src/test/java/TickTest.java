@@ -1,0 +1,303 @@
+/** What the terms say of a tick, where the order of its steps or of its queues shows. */
+public final class TickTest {
+    public static void main(String[] args) {
+        queuesTakeTurnsAtALeaf();
+        firstPacketBlocksTheQueue();
+        southQueuesComeBehindUpQueues();
+        queuesTakeTurnsAtASpine();
+        flowsTakeTurnsAtAHost();
+        flowsThatCannotSendArePassedOver();
+        windowCountsThePicksOfThisTick();
+        deliveredMakesRoomInTheSameTick();
+        lostMakesRoomInTheSameTick();
+        oneLostOfEachQueue();
+        theNextOneMovesBehindALostOne();
+        waitsWithoutASpine();
+        keepsItsSpineIfRestored();
+        cutKeepsWhatIsQueued();
+        flowletOfThePacketChoosesTheSpine();
+        Check.finish("TickTest");
+    }
+
+    private static String delivered(Fabricsim x) {
+        StringBuilder text = new StringBuilder();
+        for (int f = 0; f < x.flows(); f++) {
+            text.append(f == 0 ? "" : " ").append(x.delivered(f));
+        }
+        return text.toString();
+    }
+
+    private static void queuesTakeTurnsAtALeaf() {
+        Fabricsim x = new Fabricsim();
+        x.addFlow(2, 1, 2, 0);
+        x.addFlow(0, 1, 2, 0);
+        x.addFlow(3, 1, 2, 0);
+        x.pass(2);
+        String[] want = {"0 1 0", "1 1 0", "1 1 1", "1 2 1", "2 2 1", "2 2 2"};
+        for (String w : want) {
+            x.pass(1);
+            Check.due("delivered behind tick " + (x.clock() - 1), delivered(x), w);
+        }
+    }
+
+    /** The link does not look behind the first packet of a queue. */
+    private static void firstPacketBlocksTheQueue() {
+        Fabricsim x = new Fabricsim();
+        x.addFlow(0, 1, 2, 0);
+        x.addFlow(0, 3, 1, 1);
+        x.addFlow(2, 1, 2, 0);
+        x.pass(2);
+        x.pass(1);
+        Check.due("behind tick 2", delivered(x), "1 0 0");
+        Check.due("up queue of host 0: flow 1 has left in tick 2", x.upQueue(0), 1);
+        x.pass(1);
+        Check.due("behind tick 3", delivered(x), "1 1 1");
+    }
+
+    /** Packets for host 4 from its own leaf (up queues) and from spines 0 and 3 (south queues) at once. */
+    private static void southQueuesComeBehindUpQueues() {
+        Fabricsim x = new Fabricsim();
+        x.addFlow(0, 4, 1, 0);
+        x.addFlow(8, 4, 1, 0);
+        x.addFlow(7, 4, 1, 2);
+        x.addFlow(5, 4, 1, 2);
+        Check.due("pass", x.pass(3), 0);
+        Check.due("spine of flow 0", x.spineOf(0), 0);
+        Check.due("spine of flow 1", x.spineOf(1), 3);
+        Check.due("south 0", x.southQueue(0, 1), 1);
+        Check.due("south 3", x.southQueue(3, 1), 1);
+        String[] want = {"0 0 0 0", "0 0 0 1", "0 0 1 1", "1 0 1 1", "1 1 1 1"};
+        for (String w : want) {
+            x.pass(1);
+            Check.due("delivered behind tick " + (x.clock() - 1), delivered(x), w);
+        }
+    }
+
+    /** Flows from leaves 3, 2 and 0 meet at spine 0 for leaf 1; the leaves take turns by rising numbers. */
+    private static void queuesTakeTurnsAtASpine() {
+        Fabricsim x = new Fabricsim();
+        for (int leaf = 0; leaf < 4; leaf++) {
+            for (int s = 1; s < 4; s++) {
+                x.cut(leaf, s);
+            }
+        }
+        x.addFlow(12, 4, 2, 0);
+        x.addFlow(8, 5, 2, 0);
+        x.addFlow(0, 6, 2, 0);
+        x.pass(4);
+        String[] want = {"0 0 1", "0 1 1", "1 1 1", "1 1 2", "1 2 2", "2 2 2"};
+        for (String w : want) {
+            x.pass(1);
+            Check.due("delivered behind tick " + (x.clock() - 1), delivered(x), w);
+        }
+    }
+
+    private static void flowsTakeTurnsAtAHost() {
+        Fabricsim x = new Fabricsim();
+        x.addFlow(0, 1, 3, 0);
+        x.addFlow(5, 6, 1, 0);
+        x.addFlow(0, 2, 2, 0);
+        x.addFlow(0, 3, 1, 2);
+        int[][] want = {{1, 0, 0}, {1, 1, 0}, {1, 1, 1}, {2, 1, 1}, {2, 2, 1}, {3, 2, 1}, {3, 2, 1}};
+        for (int[] w : want) {
+            x.pass(1);
+            String tick = " in tick " + (x.clock() - 1);
+            Check.due("sent(0)" + tick, x.sent(0), w[0]);
+            Check.due("sent(2)" + tick, x.sent(2), w[1]);
+            Check.due("sent(3)" + tick, x.sent(3), w[2]);
+        }
+        x.addFlow(0, 3, 2, 0);
+        x.pass(1);
+        Check.due("a flow added behind the last one", x.sent(4), 1);
+    }
+
+    /** Flow 0 has no spine, flow 1 a full window, flow 2 has not started. */
+    private static void flowsThatCannotSendArePassedOver() {
+        Fabricsim x = new Fabricsim();
+        x.reset(0, 5, 1);
+        for (int s = 0; s < 4; s++) {
+            x.cut(2, s);
+        }
+        x.addFlow(1, 8, 1, 0);
+        x.addFlow(0, 4, 1, 0);
+        x.addFlow(1, 4, 1, 0);
+        x.addFlow(1, 2, 1, 1);
+        x.addFlow(1, 3, 1, 0);
+        x.pass(1);
+        Check.due("sent without a spine", x.sent(0), 0);
+        Check.due("sent by host 0", x.sent(1), 1);
+        Check.due("sent beyond the window", x.sent(2), 0);
+        Check.due("sent before the start", x.sent(3), 0);
+        Check.due("sent by host 1", x.sent(4), 1);
+    }
+
+    private static void windowCountsThePicksOfThisTick() {
+        for (int window = 1; window <= 16; window++) {
+            Fabricsim x = new Fabricsim();
+            x.reset(0, 5, window);
+            for (int h = 15; h > 0; h--) {
+                x.addFlow(h, 0, 2, 0);
+            }
+            x.pass(1);
+            Check.due("open(0) with window " + window, x.open(0), Math.min(window, 15));
+            for (int h = 1; h < 16; h++) {
+                Check.due("sent by host " + h, x.sent(15 - h), h <= window ? 1 : 0);
+            }
+            x.pass(1);
+            Check.due("open(0) a tick behind", x.open(0), window);
+        }
+    }
+
+    private static void deliveredMakesRoomInTheSameTick() {
+        Fabricsim x = new Fabricsim();
+        x.reset(5, 5, 1);
+        x.addFlow(0, 1, 3, 0);
+        int[] sent = {1, 1, 2, 2, 3, 3};
+        for (int want : sent) {
+            x.pass(1);
+            Check.due("sent in tick " + (x.clock() - 1), x.sent(0), want);
+        }
+    }
+
+    private static void lostMakesRoomInTheSameTick() {
+        Fabricsim x = new Fabricsim();
+        x.reset(0, 5, 1);
+        x.addFlow(0, 4, 1, 0);
+        x.addFlow(1, 4, 1, 0);
+        x.pass(2);
+        x.cut(1, 0);
+        x.pass(1);
+        Check.due("lost", x.lost(0), 1);
+        Check.due("sent again by the lower host", x.sent(0), 2);
+        Check.due("the other one waits", x.sent(1), 0);
+        Check.due("open", x.open(4), 1);
+    }
+
+    /** Three packets wait at spine 0 for want of credits of the south link; then the connection is cut. */
+    private static void oneLostOfEachQueue() {
+        Fabricsim x = new Fabricsim();
+        x.reset(5, 50, 16);
+        for (int leaf = 0; leaf < 4; leaf++) {
+            for (int s = 1; s < 4; s++) {
+                x.cut(leaf, s);
+            }
+        }
+        x.addFlow(8, 4, 4, 0);
+        x.addFlow(0, 5, 3, 4);
+        x.pass(8);
+        Check.due("north queue", x.northQueue(0, 0), 3);
+        Check.due("cut", x.cut(1, 0), x.southQueue(0, 1));
+        for (int lost = 1; lost <= 3; lost++) {
+            x.pass(1);
+            Check.due("lost, one in a tick", x.lost(1), lost);
+            Check.due("north queue behind it", x.northQueue(0, 0), 3 - lost);
+        }
+        x.pass(1);
+        Check.due("no more lost", x.lost(1), 3);
+        Check.due("none sent", x.sent(1), 3);
+    }
+
+    /** A packet for a cut leaf is lost, and the one behind it goes south in the same tick. */
+    private static void theNextOneMovesBehindALostOne() {
+        Fabricsim x = new Fabricsim();
+        x.reset(5, 50, 16);
+        for (int leaf = 0; leaf < 4; leaf++) {
+            for (int s = 1; s < 4; s++) {
+                x.cut(leaf, s);
+            }
+        }
+        x.addFlow(12, 4, 4, 0);
+        x.addFlow(0, 5, 1, 4);
+        x.addFlow(1, 8, 1, 5);
+        x.pass(7);
+        Check.due("both wait at the spine", x.northQueue(0, 0), 2);
+        Check.due("credits", x.northCredits(0, 0), 2);
+        x.cut(1, 0);
+        x.pass(1);
+        Check.due("lost", x.lost(1), 1);
+        Check.due("the next one went south", x.southQueue(0, 2), 1);
+        Check.due("north queue", x.northQueue(0, 0), 0);
+        Check.due("both credits are on their way in tick 7", x.northCredits(0, 0), 2);
+        x.pass(5);
+        Check.due("and in tick 12", x.northCredits(0, 0), 2);
+        x.pass(1);
+        Check.due("both credits are back in tick 13", x.northCredits(0, 0), 4);
+    }
+
+    private static void waitsWithoutASpine() {
+        Fabricsim x = new Fabricsim();
+        x.addFlow(0, 4, 1, 0);
+        x.addFlow(0, 1, 1, 1);
+        x.pass(1);
+        for (int s = 0; s < 4; s++) {
+            x.cut(s % 2, s);
+        }
+        x.pass(3);
+        Check.due("both wait", x.upQueue(0), 2);
+        Check.due("the packet behind it waits as well", x.delivered(1), 0);
+        Check.due("sent", x.sent(0), 1);
+        x.restore(1, 3);
+        x.pass(1);
+        Check.due("over the restored spine", x.northQueue(0, 3), 1);
+        Check.due("spineOf", x.spineOf(0), 0);
+        Check.due("flowlets", x.flowlets(0), 1);
+    }
+
+    private static void keepsItsSpineIfRestored() {
+        Fabricsim x = new Fabricsim();
+        x.addFlow(0, 4, 1, 0);
+        x.pass(1);
+        for (int s = 0; s < 4; s++) {
+            x.cut(0, s);
+        }
+        x.pass(5);
+        x.restore(0, 0);
+        x.restore(0, 1);
+        x.pass(1);
+        Check.due("over its own spine again", x.northQueue(0, 0), 1);
+
+        Fabricsim y = new Fabricsim();
+        y.addFlow(0, 4, 1, 0);
+        y.addFlow(1, 2, 1, 0);
+        y.pass(1);
+        y.cut(0, 0);
+        y.restore(0, 0);
+        y.pass(1);
+        Check.due("a cut between ticks is not seen", y.northQueue(0, 0), 1);
+    }
+
+    /** What is in the queues of cut links goes on from their far ends. */
+    private static void cutKeepsWhatIsQueued() {
+        Fabricsim x = new Fabricsim();
+        x.addFlow(0, 4, 1, 0);
+        x.pass(2);
+        Check.due("cut with the packet in the north queue", x.cut(0, 0), 1);
+        x.pass(1);
+        Check.due("it goes on south", x.southQueue(0, 1), 1);
+        Check.due("cut with the packet in the south queue", x.cut(1, 0), 1);
+        x.pass(1);
+        Check.due("it goes on down", x.downQueue(4), 1);
+        Check.due("credits return over cut links", x.northCredits(0, 0), 4);
+        x.pass(1);
+        Check.due("delivered", x.delivered(0), 1);
+        Check.due("lost", x.lost(0), 0);
+    }
+
+    /**
+     * Packet 1, of flowlet 1, is at the leaf when its spine is cut: with the number of its own flowlet the place
+     * is 33 mod 2 = 1; with that of flowlet 0 or 2 it would be 0.
+     */
+    private static void flowletOfThePacketChoosesTheSpine() {
+        Fabricsim x = new Fabricsim();
+        x.reset(0, 1, 1);
+        x.addFlow(0, 4, 2, 0);
+        x.pass(5);
+        Check.due("flowlets", x.flowlets(0), 2);
+        Check.due("spineOf", x.spineOf(0), 1);
+        x.cut(1, 1);
+        x.cut(0, 3);
+        x.pass(1);
+        Check.due("over the spine at the place 33 mod 2 of 0 and 2", x.northQueue(0, 2), 1);
+        Check.due("spineOf stays", x.spineOf(0), 1);
+    }
+}
