@@ -72,7 +72,6 @@ public final class Fabricsim {
             for (int i = 0; i < ring.length; i++) {
                 ring[i] = new Packet();
             }
-            clear();
         }
 
         private void clear() {
