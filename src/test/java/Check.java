@@ -1,9 +1,28 @@
 /** What the tests share: comparing answers, counting the wrong ones, and looking at a whole fabric. */
 final class Check {
+    /** A call that does not end must fail the test too; this is far more than any test needs. */
+    private static final long MOST_MILLIS = 300_000L;
+
     private static int wrong = 0;
     private static int made = 0;
 
+    static {
+        Thread guard = new Thread(Check::stopWhatDoesNotEnd);
+        guard.setDaemon(true);
+        guard.start();
+    }
+
     private Check() {
+    }
+
+    private static void stopWhatDoesNotEnd() {
+        try {
+            Thread.sleep(MOST_MILLIS);
+        } catch (InterruptedException e) {
+            return;
+        }
+        System.out.println("  the test does not end");
+        Runtime.getRuntime().halt(1);
     }
 
     static void due(String what, long got, long want) {
@@ -22,20 +41,24 @@ final class Check {
         }
     }
 
-    static void illegalArgument(String what, Fabricsim x, Runnable call) {
+    static void taken(String what, Runnable call) {
+        due(what + " throws", thrownBy(call), "nothing");
+    }
+
+    static void illegalArgument(String what, Fabric x, Runnable call) {
         refused(what, x, call, "IllegalArgumentException");
     }
 
-    static void illegalState(String what, Fabricsim x, Runnable call) {
+    static void illegalState(String what, Fabric x, Runnable call) {
         refused(what, x, call, "IllegalStateException");
     }
 
-    static void noSuchFlow(String what, Fabricsim x, Runnable call) {
+    static void noSuchFlow(String what, Fabric x, Runnable call) {
         refused(what, x, call, "IndexOutOfBoundsException");
     }
 
     /** The call throws exactly this exception, and changes nothing that can be looked at. */
-    private static void refused(String what, Fabricsim x, Runnable call, String want) {
+    private static void refused(String what, Fabric x, Runnable call, String want) {
         String before = look(x);
         due(what + " throws", thrownBy(call), want);
         due("the state behind the refused " + what, look(x), before);
@@ -51,7 +74,7 @@ final class Check {
     }
 
     /** Every answer that a fabric gives about itself, as one text. */
-    static String look(Fabricsim x) {
+    static String look(Fabric x) {
         StringBuilder text = new StringBuilder();
         text.append("clock ").append(x.clock()).append(" returning ").append(x.returning());
         text.append(" queued ").append(x.queued()).append(" least ").append(x.leastTicks());

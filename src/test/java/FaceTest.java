@@ -6,6 +6,7 @@ import java.lang.reflect.Modifier;
 import java.nio.file.Files;
 import java.nio.file.Path;
 import java.util.Arrays;
+import java.util.Set;
 import java.util.TreeSet;
 
 /** The public face to the letter, and those rules of LANGUAGE.md that the source's words show. */
@@ -38,6 +39,9 @@ public final class FaceTest {
         "int leastTicks throws",
     };
 
+    private static final Set<String> LIBRARY = Set.of("java.util.ArrayList", "java.util.List", "java.util.Arrays",
+            "java.util.Iterator", "java.util.NoSuchElementException");
+
     public static void main(String[] args) throws IOException {
         Class<?> c = Fabricsim.class;
         Check.due("public and final", c.getModifiers() & (Modifier.PUBLIC | Modifier.FINAL),
@@ -51,7 +55,7 @@ public final class FaceTest {
             Check.due(inside.getSimpleName() + " has some twenty fields",
                     inside.getDeclaredFields().length <= 20 ? 1 : 0, 1);
         }
-        Check.due("classes", c.getDeclaredClasses().length <= 11 ? 1 : 0, 1);
+        Check.due("some twelve classes", c.getDeclaredClasses().length <= 12 ? 1 : 0, 1);
         words(Files.readString(Path.of("src/main/java/Fabricsim.java")));
         Check.finish("FaceTest");
     }
@@ -78,6 +82,7 @@ public final class FaceTest {
             if (Modifier.isPrivate(m.getModifiers())) {
                 Check.due("a public method of the name of the private " + m.getName(),
                         names.contains(m.getName()) ? 1 : 0, 0);
+                Check.due(m.getName() + " is a lambda", m.getName().startsWith("lambda$") ? 1 : 0, 0);
             }
             Check.due(m.getName() + " takes at most seven", m.getParameterCount() <= 7 ? 1 : 0, 1);
         }
@@ -110,11 +115,23 @@ public final class FaceTest {
     }
 
     private static void words(String source) {
-        String[] barred = {"import ", "package ", "->", "::", "finally", "synchronized", "assert", "static {",
-            "catch", "while (true)", "Exact", "Random", "System.", "Object"};
+        String[] barred = {"::", "finally", "synchronized", "assert ", "static {", "while (true)", "for (;;)", "Exact(",
+            "Random", "Thread", "getMessage", "Math.sqrt", "Math.pow"};
         for (String word : barred) {
             Check.due("places of '" + word + "'", source.indexOf(word), -1);
         }
         Check.due("signs beyond 127", source.chars().filter(s -> s > 127).count(), 0);
+        for (String line : source.split("\n")) {
+            Check.due("a package line", line.startsWith("package ") ? 1 : 0, 0);
+            if (line.startsWith("import ")) {
+                String name = line.substring(7).replace(";", "").trim();
+                Check.due(line + " is of the library", LIBRARY.contains(name) ? 1 : 0, 1);
+            }
+        }
+        Check.due("calls of System beside arraycopy", places(source, "System.") - places(source, "System.arraycopy"), 0);
+    }
+
+    private static int places(String source, String word) {
+        return source.split(java.util.regex.Pattern.quote(word), -1).length - 1;
     }
 }

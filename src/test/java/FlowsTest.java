@@ -6,17 +6,21 @@ public final class FlowsTest {
         otherLeaf();
         sentCountsLostOnes();
         outOfOrderByAnotherSpine();
+        outOfOrderTwiceInARow();
         spineByTheRule();
         spineAmongUsableOnes();
         flowletsByTheGap();
         flowletsByACut();
         restoredInTimeIsNoFlowlet();
         reroutedPacketLeavesTheFlowAlone();
+        firstFlowletBeginsWithTheFirstPacket();
+        gapAndCutBeginOneFlowlet();
+        cutOfAnotherLeafBeginsNoFlowlet();
         Check.finish("FlowsTest");
     }
 
     private static void noSuchFlow() {
-        Fabricsim x = new Fabricsim();
+        Fabric x = new Fabric();
         for (int round = 0; round < 3; round++) {
             int[] wrong = {-1, x.flows(), 24, Integer.MIN_VALUE, Integer.MAX_VALUE};
             for (int f : wrong) {
@@ -34,7 +38,7 @@ public final class FlowsTest {
     }
 
     private static void sameLeaf() {
-        Fabricsim x = new Fabricsim();
+        Fabric x = new Fabric();
         x.addFlow(9, 11, 3, 0);
         dueFlow(x, "new", 0, 0, 0, 0, Fabricsim.NONE, 0, Fabricsim.NONE);
         x.pass(1);
@@ -51,7 +55,7 @@ public final class FlowsTest {
 
     /** 3*1 + 5*6 = 33 leads over spine 1. */
     private static void otherLeaf() {
-        Fabricsim x = new Fabricsim();
+        Fabric x = new Fabric();
         x.addFlow(1, 6, 2, 2);
         x.pass(2);
         dueFlow(x, "not started", 0, 0, 0, 0, Fabricsim.NONE, 0, Fabricsim.NONE);
@@ -63,7 +67,7 @@ public final class FlowsTest {
         dueFlow(x, "tick 7", 2, 2, 0, 0, 7, 1, 1);
     }
 
-    private static void dueFlow(Fabricsim x, String when, int... want) {
+    private static void dueFlow(Fabric x, String when, int... want) {
         int[] got = {x.sent(0), x.delivered(0), x.lost(0), x.outOfOrder(0), x.doneIn(0), x.flowlets(0), x.spineOf(0)};
         String[] name = {"P9 sent", "P10 delivered", "P11 lost", "P12 outOfOrder", "P13 doneIn", "P14 flowlets",
             "P15 spineOf"};
@@ -74,7 +78,7 @@ public final class FlowsTest {
 
     /** 5*4 = 20 leads over spine 0; its packet is at that spine when the way down is cut. */
     private static void sentCountsLostOnes() {
-        Fabricsim x = new Fabricsim();
+        Fabric x = new Fabric();
         x.addFlow(0, 4, 1, 0);
         x.pass(2);
         Check.due("P4 cut with the packet at the spine", x.cut(1, 0), 0);
@@ -95,7 +99,7 @@ public final class FlowsTest {
      * turn in tick 5), begins a flowlet over spine 33 mod 4 and is there first.
      */
     private static void outOfOrderByAnotherSpine() {
-        Fabricsim x = new Fabricsim();
+        Fabric x = new Fabric();
         x.reset(5, 1, 16);
         x.addFlow(0, 4, 2, 4);
         x.addFlow(8, 5, 4, 0);
@@ -111,9 +115,31 @@ public final class FlowsTest {
         Check.due("P12 of a flow over one spine", x.outOfOrder(1), 0);
     }
 
+    /**
+     * "if a packet of the flow with a greater number was delivered earlier": flows 1 and 3 take the four credits of
+     * the south link 0-1 in ticks 2 to 5, so the packets 0 and 1, sent in ticks 3 and 4, wait till ticks 9 and 10;
+     * packet 2, sent in tick 6 over spine 1, is there before both, and packet 1 is late though it comes behind 0.
+     */
+    private static void outOfOrderTwiceInARow() {
+        Fabric x = new Fabric();
+        x.reset(5, 1, 16);
+        x.addFlow(0, 4, 3, 3);
+        x.addFlow(8, 5, 2, 0);
+        x.addFlow(0, 1, 1, 5);
+        x.addFlow(12, 7, 2, 0);
+        x.pass(10);
+        dueFlow(x, "tick 9", 3, 0, 0, 0, Fabricsim.NONE, 2, 1);
+        x.pass(1);
+        dueFlow(x, "tick 10", 3, 1, 0, 0, Fabricsim.NONE, 2, 1);
+        x.pass(1);
+        dueFlow(x, "tick 11", 3, 2, 0, 1, Fabricsim.NONE, 2, 1);
+        x.pass(1);
+        dueFlow(x, "tick 12", 3, 3, 0, 2, 12, 2, 1);
+    }
+
     private static void spineByTheRule() {
         for (int i = 0; i < 24; i++) {
-            Fabricsim x = new Fabricsim();
+            Fabric x = new Fabric();
             x.reset(0, 1, 1);
             for (int f = 0; f < i; f++) {
                 x.addFlow(0, 1, 1, 100);
@@ -135,7 +161,7 @@ public final class FlowsTest {
 
     private static void spineAmongUsableOnes() {
         for (int cuts = 0; cuts < 15; cuts++) {
-            Fabricsim x = new Fabricsim();
+            Fabric x = new Fabric();
             x.reset(0, 1, 1);
             int[] left = new int[4];
             int ways = 0;
@@ -158,7 +184,7 @@ public final class FlowsTest {
     /** With window 1 a packet is sent every fourth tick. */
     private static void flowletsByTheGap() {
         for (int gap = 1; gap <= 6; gap++) {
-            Fabricsim x = new Fabricsim();
+            Fabric x = new Fabric();
             x.reset(0, gap, 1);
             x.addFlow(0, 4, 5, 0);
             x.pass(30);
@@ -168,7 +194,7 @@ public final class FlowsTest {
     }
 
     private static void flowletsByACut() {
-        Fabricsim x = new Fabricsim();
+        Fabric x = new Fabric();
         x.addFlow(0, 4, 50, 0);
         x.pass(1);
         Check.due("P15 spine", x.spineOf(0), 0);
@@ -192,7 +218,7 @@ public final class FlowsTest {
     }
 
     private static void restoredInTimeIsNoFlowlet() {
-        Fabricsim x = new Fabricsim();
+        Fabric x = new Fabric();
         x.addFlow(0, 4, 50, 0);
         x.pass(1);
         x.cut(0, 0);
@@ -203,7 +229,7 @@ public final class FlowsTest {
     }
 
     private static void reroutedPacketLeavesTheFlowAlone() {
-        Fabricsim x = new Fabricsim();
+        Fabric x = new Fabric();
         x.addFlow(0, 4, 1, 0);
         x.pass(1);
         x.cut(1, 0);
@@ -213,5 +239,42 @@ public final class FlowsTest {
         Check.due("P15 spineOf", x.spineOf(0), 0);
         x.pass(3);
         Check.due("P13 doneIn", x.doneIn(0), 4);
+    }
+
+    /** "A flowlet begins with the first packet", and that is one, however late the packet is. */
+    private static void firstFlowletBeginsWithTheFirstPacket() {
+        for (int later : new int[] {0, 1, 100}) {
+            Fabric x = new Fabric();
+            x.reset(0, 1, 8);
+            x.addFlow(0, 4, 1, later);
+            x.pass(1 + later);
+            Check.due("P14 flowlets, later " + later, x.flowlets(0), 1);
+            Check.due("P15 spineOf, later " + later, x.spineOf(0), 0);
+        }
+    }
+
+    /** Packet 1 is sent in tick 4, beyond the gap, and its spine is cut as well: that is one flowlet, the number 1. */
+    private static void gapAndCutBeginOneFlowlet() {
+        Fabric x = new Fabric();
+        x.reset(0, 1, 1);
+        x.addFlow(0, 4, 2, 0);
+        x.pass(4);
+        x.cut(0, 0);
+        x.pass(1);
+        Check.due("P9 sent", x.sent(0), 2);
+        Check.due("P14 flowlets", x.flowlets(0), 2);
+        Check.due("P15 spine at the place 33 mod 3 of 1, 2, 3", x.spineOf(0), 1);
+    }
+
+    private static void cutOfAnotherLeafBeginsNoFlowlet() {
+        Fabric x = new Fabric();
+        x.addFlow(0, 4, 2, 0);
+        x.pass(1);
+        x.cut(2, 0);
+        x.cut(3, 0);
+        x.pass(1);
+        Check.due("P9 sent", x.sent(0), 2);
+        Check.due("P14 flowlets", x.flowlets(0), 1);
+        Check.due("P15 spineOf", x.spineOf(0), 0);
     }
 }

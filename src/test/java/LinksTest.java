@@ -11,6 +11,7 @@ public final class LinksTest {
         northCreditsReturnLate();
         queuedAndReturning();
         fourTogether();
+        fourTogetherOfANorthLink();
         openCountsTarget();
         usableSpines();
         usableRefuses();
@@ -18,11 +19,12 @@ public final class LinksTest {
         leastByLeaves();
         leastFollowsWhatIsSent();
         leastWithCutLeaves();
+        looksChangeNothing();
         Check.finish("LinksTest");
     }
 
     private static void hostRange() {
-        Fabricsim x = new Fabricsim();
+        Fabric x = new Fabric();
         x.addFlow(0, 9, 5, 0);
         x.pass(3);
         for (int w : new int[] {-1, 16, FAR[0], FAR[1]}) {
@@ -34,7 +36,7 @@ public final class LinksTest {
     }
 
     private static void leafAndSpineRange() {
-        Fabricsim x = new Fabricsim();
+        Fabric x = new Fabric();
         x.addFlow(0, 9, 5, 0);
         x.pass(3);
         for (int w : new int[] {-1, 4, FAR[0], FAR[1]}) {
@@ -48,7 +50,7 @@ public final class LinksTest {
     }
 
     /** Where the only packet is; every other queue is empty. */
-    private static void dueAlone(Fabricsim x, String place) {
+    private static void dueAlone(Fabric x, String place) {
         StringBuilder found = new StringBuilder();
         for (int h = 0; h < 16; h++) {
             note(found, "up " + h, x.upQueue(h));
@@ -76,7 +78,7 @@ public final class LinksTest {
                     continue;
                 }
                 int spine = (3 * source + 5 * target) % 4;
-                Fabricsim x = new Fabricsim();
+                Fabric x = new Fabric();
                 x.addFlow(source, target, 1, 0);
                 dueAlone(x, "");
                 x.pass(1);
@@ -102,7 +104,7 @@ public final class LinksTest {
         for (int source = 0; source < 16; source++) {
             for (int target = source / 4 * 4; target < source / 4 * 4 + 4; target++) {
                 if (source != target) {
-                    Fabricsim x = new Fabricsim();
+                    Fabric x = new Fabric();
                     x.addFlow(source, target, 1, 0);
                     x.pass(1);
                     dueAlone(x, "up " + source);
@@ -117,7 +119,7 @@ public final class LinksTest {
     }
 
     private static void upCreditsRunOut() {
-        Fabricsim x = new Fabricsim();
+        Fabric x = new Fabric();
         x.reset(5, 5, 16);
         x.addFlow(0, 1, 50, 0);
         int[] credits = {3, 2, 1, 0, 0, 0, 0, 0, 0, 0, 0, 0, 0};
@@ -133,7 +135,7 @@ public final class LinksTest {
     /** The packet leaves the queue of north link 0-0 in tick 2: its credit is back in tick 3 + delay. */
     private static void northCreditsReturnLate() {
         for (int delay = 0; delay <= 5; delay++) {
-            Fabricsim x = new Fabricsim();
+            Fabric x = new Fabric();
             x.reset(delay, 5, 8);
             x.addFlow(0, 4, 1, 0);
             for (int tick = 0; tick < 12; tick++) {
@@ -152,7 +154,7 @@ public final class LinksTest {
     }
 
     private static void queuedAndReturning() {
-        Fabricsim x = new Fabricsim();
+        Fabric x = new Fabric();
         x.reset(3, 5, 16);
         for (int h = 0; h < 16; h++) {
             x.addFlow(h, (h + 6) % 16, 30, 0);
@@ -173,21 +175,56 @@ public final class LinksTest {
         Check.due("P22 returning at the end", x.returning(), 0);
     }
 
-    /** Up link of host 0 alone with one same-leaf flow: its credits, queue and returning ones are 4. */
+    /**
+     * "the credits of a link, the packets in its queue and the credits that are on their way back are always 4
+     * together": what has left an up queue is what was sent less what is in it, and those that left in the last
+     * 1 + delay ticks are on their way back.
+     */
     private static void fourTogether() {
-        Fabricsim x = new Fabricsim();
-        x.reset(2, 5, 16);
-        x.addFlow(0, 1, 40, 0);
-        for (int i = 0; i < 60; i++) {
-            x.pass(1);
-            int missing = 4 - x.upCredits(0) - x.upQueue(0);
-            Check.due("P20 between 0 and 4", x.upCredits(0) >= 0 && x.upCredits(0) <= 4 ? 1 : 0, 1);
-            Check.due("P22 the rest is returning", missing >= 0 && missing <= x.returning() ? 1 : 0, 1);
+        for (int delay = 0; delay <= 5; delay += 5) {
+            Fabric x = new Fabric();
+            x.reset(delay, 5, 16);
+            for (int h = 0; h < 16; h++) {
+                x.addFlow(h, (h + 6) % 16, 30, 0);
+            }
+            int[][] left = new int[60][16];
+            for (int tick = 0; tick < left.length; tick++) {
+                x.pass(1);
+                for (int h = 0; h < 16; h++) {
+                    left[tick][h] = x.sent(h) - x.upQueue(h);
+                    int back = left[tick][h] - (tick > delay ? left[tick - 1 - delay][h] : 0);
+                    Check.due("P20 host " + h + ", tick " + tick, x.upCredits(h) + x.upQueue(h) + back, 4);
+                }
+            }
+        }
+    }
+
+    /** The same of north links: leaf 0 sends over spine 0 alone, and what left its up queues is over that link. */
+    private static void fourTogetherOfANorthLink() {
+        for (int delay = 0; delay <= 5; delay += 5) {
+            Fabric x = new Fabric();
+            x.reset(delay, 5, 16);
+            for (int s = 1; s < 4; s++) {
+                x.cut(0, s);
+            }
+            for (int h = 0; h < 4; h++) {
+                x.addFlow(h, 4 * h % 12 + 4, 30, 0);
+            }
+            int[] left = new int[60];
+            for (int tick = 0; tick < left.length; tick++) {
+                x.pass(1);
+                for (int h = 0; h < 4; h++) {
+                    left[tick] += x.sent(h) - x.upQueue(h);
+                }
+                left[tick] -= x.northQueue(0, 0);
+                int back = left[tick] - (tick > delay ? left[tick - 1 - delay] : 0);
+                Check.due("P21 tick " + tick, x.northCredits(0, 0) + x.northQueue(0, 0) + back, 4);
+            }
         }
     }
 
     private static void openCountsTarget() {
-        Fabricsim x = new Fabricsim();
+        Fabric x = new Fabric();
         x.addFlow(0, 1, 2, 0);
         x.addFlow(2, 1, 2, 0);
         x.addFlow(3, 4, 1, 0);
@@ -204,7 +241,7 @@ public final class LinksTest {
     private static void usableSpines() {
         for (int a = 0; a < 16; a++) {
             for (int b = 0; b < 16; b++) {
-                Fabricsim x = new Fabricsim();
+                Fabric x = new Fabric();
                 for (int s = 0; s < 4; s++) {
                     if ((a >> s & 1) == 1) {
                         x.cut(1, s);
@@ -223,7 +260,7 @@ public final class LinksTest {
     }
 
     private static void usableRefuses() {
-        Fabricsim x = new Fabricsim();
+        Fabric x = new Fabric();
         for (int w : new int[] {-1, 4, FAR[0], FAR[1]}) {
             Check.illegalArgument("P25 usable leaf " + w, x, () -> x.usable(w, 0));
             Check.illegalArgument("P25 usable other " + w, x, () -> x.usable(0, w));
@@ -235,7 +272,7 @@ public final class LinksTest {
     }
 
     private static void leastByHosts() {
-        Fabricsim x = new Fabricsim();
+        Fabric x = new Fabric();
         Check.due("P26 none", x.leastTicks(), 0);
         x.addFlow(0, 1, 7, 0);
         Check.due("P26 one flow", x.leastTicks(), 7);
@@ -247,14 +284,14 @@ public final class LinksTest {
         Check.due("P26 the last host as source", x.leastTicks(), 100);
         x.addFlow(13, 14, 3, 100);
         Check.due("P26 target of two flows", x.leastTicks(), 103);
-        Fabricsim y = new Fabricsim();
+        Fabric y = new Fabric();
         y.addFlow(0, 15, 4, 0);
         y.addFlow(1, 15, 4, 0);
         Check.due("P26 the last host as target", y.leastTicks(), 8);
     }
 
     private static void leastByLeaves() {
-        Fabricsim x = new Fabricsim();
+        Fabric x = new Fabric();
         for (int i = 0; i < 4; i++) {
             x.addFlow(i, 4 * i % 12 + 4 + i % 2, 10, 0);
         }
@@ -271,7 +308,7 @@ public final class LinksTest {
     }
 
     private static void leastIntoALeaf() {
-        Fabricsim x = new Fabricsim();
+        Fabric x = new Fabric();
         x.addFlow(0, 12, 5, 0);
         x.addFlow(4, 13, 5, 0);
         x.addFlow(8, 14, 5, 0);
@@ -287,7 +324,7 @@ public final class LinksTest {
     }
 
     private static void leastInsideALeaf() {
-        Fabricsim x = new Fabricsim();
+        Fabric x = new Fabric();
         x.addFlow(0, 1, 6, 0);
         x.addFlow(2, 3, 6, 0);
         x.cut(0, 0);
@@ -299,7 +336,7 @@ public final class LinksTest {
     }
 
     private static void outAndInAreApart() {
-        Fabricsim x = new Fabricsim();
+        Fabric x = new Fabric();
         x.cut(0, 0);
         x.cut(0, 1);
         x.addFlow(0, 4, 9, 0);
@@ -310,14 +347,14 @@ public final class LinksTest {
     }
 
     private static void leastFollowsWhatIsSent() {
-        Fabricsim x = new Fabricsim();
+        Fabric x = new Fabric();
         x.addFlow(0, 4, 5, 0);
         for (int left = 4; left >= 0; left--) {
             x.pass(1);
             Check.due("P26 sent ones do not count", x.leastTicks(), left);
         }
         Check.due("P24 some are open yet", x.open(4) > 0 ? 1 : 0, 1);
-        Fabricsim y = new Fabricsim();
+        Fabric y = new Fabric();
         y.addFlow(0, 4, 1, 0);
         y.pass(2);
         for (int s = 0; s < 4; s++) {
@@ -332,7 +369,7 @@ public final class LinksTest {
     }
 
     private static void leastWithCutLeaves() {
-        Fabricsim x = new Fabricsim();
+        Fabric x = new Fabric();
         for (int s = 0; s < 4; s++) {
             x.cut(2, s);
         }
@@ -343,18 +380,51 @@ public final class LinksTest {
         Check.due("P26 packets into it", x.leastTicks(), Fabricsim.NONE);
         x.restore(2, 2);
         Check.due("P26 restored", x.leastTicks(), 6);
-        Fabricsim y = new Fabricsim();
+        Fabric y = new Fabric();
         for (int s = 0; s < 4; s++) {
             y.cut(2, s);
         }
         y.addFlow(9, 0, 3, 100);
         Check.due("P26 packets out of it", y.leastTicks(), Fabricsim.NONE);
-        Fabricsim z = new Fabricsim();
+        Fabric z = new Fabric();
         z.cut(0, 0);
         z.cut(0, 1);
         z.cut(1, 2);
         z.cut(1, 3);
         z.addFlow(0, 4, 4, 0);
         Check.due("P26 connections, but none in common", z.leastTicks(), 4);
+    }
+
+    private static void look(Fabric x, int which, int i) {
+        int flow = i % x.flows();
+        int other = (i / 4 + 1 + i % 3) % 4;
+        int[] answers = {
+            which == 0 ? x.sent(flow) + x.delivered(flow) + x.lost(flow) + x.outOfOrder(flow) : 0,
+            which == 1 ? x.doneIn(flow) + x.flowlets(flow) + x.spineOf(flow) : 0,
+            which == 2 ? x.upQueue(i) + x.downQueue(i) : 0,
+            which == 3 ? x.northQueue(i / 4, i % 4) + x.southQueue(i / 4, i % 4) : 0,
+            which == 4 ? x.upCredits(i) + x.open(i) : 0,
+            which == 5 ? x.northCredits(i / 4, i % 4) : 0,
+            which == 6 ? x.usable(i / 4, other) : 0,
+            which == 7 ? x.returning() + x.queued() : 0,
+            which == 8 ? x.leastTicks() + x.clock() : 0,
+        };
+        Check.due("P9 to P26 kinds of answers", answers.length, 9);
+    }
+
+    /** A fabric that is looked at in every tick goes on as one that is not; within the 512 calls of an object. */
+    private static void looksChangeNothing() {
+        for (int which = 0; which < 9; which++) {
+            Fabric x = Scenes.busy();
+            Fabric y = Scenes.busy();
+            for (int tick = 0; tick < 6; tick++) {
+                for (int i = 0; i < 6; i++) {
+                    look(x, which, (i + 6 * tick) % 16);
+                }
+                x.pass(1);
+                y.pass(1);
+            }
+            Check.due("behind looks of kind " + which, Check.look(x), Check.look(y));
+        }
     }
 }

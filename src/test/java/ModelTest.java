@@ -12,7 +12,7 @@ public final class ModelTest {
     private final int hostRange;
     private final int longestPass;
     private final int cutWeight;
-    private Fabricsim x = new Fabricsim();
+    private Fabric x = new Fabric();
     private Model m = new Model(0, 5, 8);
     private String call = "new";
     private boolean same = true;
@@ -68,6 +68,11 @@ public final class ModelTest {
         Check.due(call, got, want);
     }
 
+    /** That the call changed nothing shows when the state is compared with that of the model, which was not asked. */
+    private static void refused(String what, String exception, Runnable call) {
+        Check.due(what + " throws", Check.thrownBy(call), exception);
+    }
+
     private void again() {
         int delay = dice.nextInt(6);
         int gap = 1 + dice.nextInt(dice.nextBoolean() ? 4 : 50);
@@ -87,7 +92,7 @@ public final class ModelTest {
         }
         call = "addFlow(" + source + ", " + target + ", " + packets + ", " + later + ")";
         if (m.flows.size() == 24) {
-            Check.illegalState(call, x, () -> x.addFlow(source, target, packets, later));
+            refused(call, "IllegalStateException", () -> x.addFlow(source, target, packets, later));
         } else {
             answer(x.addFlow(source, target, packets, later), m.add(source, target, packets, later));
         }
@@ -107,12 +112,12 @@ public final class ModelTest {
         int spine = dice.nextInt(4);
         if (m.cut[leaf][spine]) {
             call = "restore(" + leaf + ", " + spine + ")";
-            Check.illegalState("a second cut", x, () -> x.cut(leaf, spine));
+            refused("a second cut", "IllegalStateException", () -> x.cut(leaf, spine));
             m.cut[leaf][spine] = false;
             answer(x.restore(leaf, spine), m.cutCount());
         } else {
             call = "cut(" + leaf + ", " + spine + ")";
-            Check.illegalState("restore of what is not cut", x, () -> x.restore(leaf, spine));
+            refused("restore of what is not cut", "IllegalStateException", () -> x.restore(leaf, spine));
             m.cut[leaf][spine] = true;
             answer(x.cut(leaf, spine), m.queues.get("north" + leaf + spine).size()
                     + m.queues.get("south" + spine + leaf).size());
@@ -121,9 +126,9 @@ public final class ModelTest {
 
     private void wrong() {
         call = "wrong calls";
-        Check.illegalArgument("reset", x, () -> x.reset(6, 1, 1));
-        Check.illegalArgument("addFlow", x, () -> x.addFlow(3, 3, 1, 0));
-        Check.illegalArgument("pass", x, () -> x.pass(201));
-        Check.noSuchFlow("sent", x, () -> x.sent(m.flows.size()));
+        refused("reset", "IllegalArgumentException", () -> x.reset(6, 1, 1));
+        refused("addFlow", "IllegalArgumentException", () -> x.addFlow(3, 3, 1, 0));
+        refused("pass", "IllegalArgumentException", () -> x.pass(201));
+        refused("sent", "IndexOutOfBoundsException", () -> x.sent(m.flows.size()));
     }
 }

@@ -16,10 +16,15 @@ public final class TickTest {
         keepsItsSpineIfRestored();
         cutKeepsWhatIsQueued();
         flowletOfThePacketChoosesTheSpine();
+        eachHostTakesOnePacket();
+        onePacketOfAQueueLeavesInATick();
+        picksDoNotSeeEachOther();
+        hostUsesTheCreditThatIsBack();
+        linkUsesTheCreditThatIsBack();
         Check.finish("TickTest");
     }
 
-    private static String delivered(Fabricsim x) {
+    private static String delivered(Fabric x) {
         StringBuilder text = new StringBuilder();
         for (int f = 0; f < x.flows(); f++) {
             text.append(f == 0 ? "" : " ").append(x.delivered(f));
@@ -28,7 +33,7 @@ public final class TickTest {
     }
 
     private static void queuesTakeTurnsAtALeaf() {
-        Fabricsim x = new Fabricsim();
+        Fabric x = new Fabric();
         x.addFlow(2, 1, 2, 0);
         x.addFlow(0, 1, 2, 0);
         x.addFlow(3, 1, 2, 0);
@@ -42,7 +47,7 @@ public final class TickTest {
 
     /** The link does not look behind the first packet of a queue. */
     private static void firstPacketBlocksTheQueue() {
-        Fabricsim x = new Fabricsim();
+        Fabric x = new Fabric();
         x.addFlow(0, 1, 2, 0);
         x.addFlow(0, 3, 1, 1);
         x.addFlow(2, 1, 2, 0);
@@ -56,7 +61,7 @@ public final class TickTest {
 
     /** Packets for host 4 from its own leaf (up queues) and from spines 0 and 3 (south queues) at once. */
     private static void southQueuesComeBehindUpQueues() {
-        Fabricsim x = new Fabricsim();
+        Fabric x = new Fabric();
         x.addFlow(0, 4, 1, 0);
         x.addFlow(8, 4, 1, 0);
         x.addFlow(7, 4, 1, 2);
@@ -75,12 +80,8 @@ public final class TickTest {
 
     /** Flows from leaves 3, 2 and 0 meet at spine 0 for leaf 1; the leaves take turns by rising numbers. */
     private static void queuesTakeTurnsAtASpine() {
-        Fabricsim x = new Fabricsim();
-        for (int leaf = 0; leaf < 4; leaf++) {
-            for (int s = 1; s < 4; s++) {
-                x.cut(leaf, s);
-            }
-        }
+        Fabric x = new Fabric();
+        Scenes.onlySpine0(x);
         x.addFlow(12, 4, 2, 0);
         x.addFlow(8, 5, 2, 0);
         x.addFlow(0, 6, 2, 0);
@@ -93,7 +94,7 @@ public final class TickTest {
     }
 
     private static void flowsTakeTurnsAtAHost() {
-        Fabricsim x = new Fabricsim();
+        Fabric x = new Fabric();
         x.addFlow(0, 1, 3, 0);
         x.addFlow(5, 6, 1, 0);
         x.addFlow(0, 2, 2, 0);
@@ -113,7 +114,7 @@ public final class TickTest {
 
     /** Flow 0 has no spine, flow 1 a full window, flow 2 has not started. */
     private static void flowsThatCannotSendArePassedOver() {
-        Fabricsim x = new Fabricsim();
+        Fabric x = new Fabric();
         x.reset(0, 5, 1);
         for (int s = 0; s < 4; s++) {
             x.cut(2, s);
@@ -133,7 +134,7 @@ public final class TickTest {
 
     private static void windowCountsThePicksOfThisTick() {
         for (int window = 1; window <= 16; window++) {
-            Fabricsim x = new Fabricsim();
+            Fabric x = new Fabric();
             x.reset(0, 5, window);
             for (int h = 15; h > 0; h--) {
                 x.addFlow(h, 0, 2, 0);
@@ -149,7 +150,7 @@ public final class TickTest {
     }
 
     private static void deliveredMakesRoomInTheSameTick() {
-        Fabricsim x = new Fabricsim();
+        Fabric x = new Fabric();
         x.reset(5, 5, 1);
         x.addFlow(0, 1, 3, 0);
         int[] sent = {1, 1, 2, 2, 3, 3};
@@ -160,7 +161,7 @@ public final class TickTest {
     }
 
     private static void lostMakesRoomInTheSameTick() {
-        Fabricsim x = new Fabricsim();
+        Fabric x = new Fabric();
         x.reset(0, 5, 1);
         x.addFlow(0, 4, 1, 0);
         x.addFlow(1, 4, 1, 0);
@@ -175,13 +176,9 @@ public final class TickTest {
 
     /** Three packets wait at spine 0 for want of credits of the south link; then the connection is cut. */
     private static void oneLostOfEachQueue() {
-        Fabricsim x = new Fabricsim();
+        Fabric x = new Fabric();
         x.reset(5, 50, 16);
-        for (int leaf = 0; leaf < 4; leaf++) {
-            for (int s = 1; s < 4; s++) {
-                x.cut(leaf, s);
-            }
-        }
+        Scenes.onlySpine0(x);
         x.addFlow(8, 4, 4, 0);
         x.addFlow(0, 5, 3, 4);
         x.pass(8);
@@ -199,13 +196,9 @@ public final class TickTest {
 
     /** A packet for a cut leaf is lost, and the one behind it goes south in the same tick. */
     private static void theNextOneMovesBehindALostOne() {
-        Fabricsim x = new Fabricsim();
+        Fabric x = new Fabric();
         x.reset(5, 50, 16);
-        for (int leaf = 0; leaf < 4; leaf++) {
-            for (int s = 1; s < 4; s++) {
-                x.cut(leaf, s);
-            }
-        }
+        Scenes.onlySpine0(x);
         x.addFlow(12, 4, 4, 0);
         x.addFlow(0, 5, 1, 4);
         x.addFlow(1, 8, 1, 5);
@@ -225,7 +218,7 @@ public final class TickTest {
     }
 
     private static void waitsWithoutASpine() {
-        Fabricsim x = new Fabricsim();
+        Fabric x = new Fabric();
         x.addFlow(0, 4, 1, 0);
         x.addFlow(0, 1, 1, 1);
         x.pass(1);
@@ -244,7 +237,7 @@ public final class TickTest {
     }
 
     private static void keepsItsSpineIfRestored() {
-        Fabricsim x = new Fabricsim();
+        Fabric x = new Fabric();
         x.addFlow(0, 4, 1, 0);
         x.pass(1);
         for (int s = 0; s < 4; s++) {
@@ -256,7 +249,7 @@ public final class TickTest {
         x.pass(1);
         Check.due("over its own spine again", x.northQueue(0, 0), 1);
 
-        Fabricsim y = new Fabricsim();
+        Fabric y = new Fabric();
         y.addFlow(0, 4, 1, 0);
         y.addFlow(1, 2, 1, 0);
         y.pass(1);
@@ -268,7 +261,7 @@ public final class TickTest {
 
     /** What is in the queues of cut links goes on from their far ends. */
     private static void cutKeepsWhatIsQueued() {
-        Fabricsim x = new Fabricsim();
+        Fabric x = new Fabric();
         x.addFlow(0, 4, 1, 0);
         x.pass(2);
         Check.due("cut with the packet in the north queue", x.cut(0, 0), 1);
@@ -288,7 +281,7 @@ public final class TickTest {
      * is 33 mod 2 = 1; with that of flowlet 0 or 2 it would be 0.
      */
     private static void flowletOfThePacketChoosesTheSpine() {
-        Fabricsim x = new Fabricsim();
+        Fabric x = new Fabric();
         x.reset(0, 1, 1);
         x.addFlow(0, 4, 2, 0);
         x.pass(5);
@@ -299,5 +292,82 @@ public final class TickTest {
         x.pass(1);
         Check.due("over the spine at the place 33 mod 2 of 0 and 2", x.northQueue(0, 2), 1);
         Check.due("spineOf stays", x.spineOf(0), 1);
+    }
+
+    /** Each of the 16 hosts takes one packet in a tick, and no more than one. */
+    private static void eachHostTakesOnePacket() {
+        Fabric x = new Fabric();
+        for (int h = 0; h < 16; h++) {
+            x.addFlow(h, h ^ 1, 2, 0);
+        }
+        Check.due("ticks 0 and 1", x.pass(2), 0);
+        Check.due("tick 2", x.pass(1), 16);
+        Check.due("tick 3", x.pass(1), 16);
+        Check.due("tick 4", x.pass(1), 0);
+    }
+
+    /** Packets for three links wait in one queue; all three links have credits, but each tick one packet leaves. */
+    private static void onePacketOfAQueueLeavesInATick() {
+        Fabric x = new Fabric();
+        x.addFlow(0, 4, 1, 0);
+        x.addFlow(0, 2, 1, 0);
+        x.addFlow(0, 1, 1, 0);
+        x.pass(1);
+        for (int s = 0; s < 4; s++) {
+            x.cut(1, s);
+        }
+        x.pass(2);
+        Check.due("all three wait", x.upQueue(0), 3);
+        x.restore(1, 0);
+        for (int left = 2; left >= 0; left--) {
+            x.pass(1);
+            Check.due("up queue behind tick " + (x.clock() - 1), x.upQueue(0), left);
+        }
+        Check.due("delivered behind tick 5", delivered(x), "0 1 0");
+        x.pass(1);
+        Check.due("delivered behind tick 6", delivered(x), "1 1 1");
+    }
+
+    /** "Until then all queues are as they were in 5": what comes to a queue in a tick leaves it in a later one. */
+    private static void picksDoNotSeeEachOther() {
+        Fabric x = new Fabric();
+        x.addFlow(0, 4, 1, 0);
+        x.addFlow(4, 0, 1, 0);
+        x.addFlow(9, 10, 1, 0);
+        String[] want = {"1 1 1", "1 1 1", "1 1 0", "1 1 0", "0 0 0"};
+        for (String w : want) {
+            x.pass(1);
+            int over = x.spineOf(0);
+            int back = x.spineOf(1);
+            int first = x.upQueue(0) + x.northQueue(0, over) + x.southQueue(over, 1) + x.downQueue(4);
+            int second = x.upQueue(4) + x.northQueue(1, back) + x.southQueue(back, 0) + x.downQueue(0);
+            int third = x.upQueue(9) + x.downQueue(10);
+            Check.due("on the way behind tick " + (x.clock() - 1), first + " " + second + " " + third, w);
+        }
+    }
+
+    /** Step 1 comes before step 6: the credit that is back in tick 7 is given away in tick 7. */
+    private static void hostUsesTheCreditThatIsBack() {
+        Fabric x = new Fabric();
+        x.reset(5, 5, 16);
+        x.addFlow(0, 1, 5, 0);
+        x.pass(7);
+        Check.due("sent behind tick 6", x.sent(0), 4);
+        x.pass(1);
+        Check.due("sent behind tick 7", x.sent(0), 5);
+        Check.due("credits behind tick 7", x.upCredits(0), 0);
+    }
+
+    /** Step 1 comes before step 5: the down link's first credit left in tick 2, and is back and used in tick 8. */
+    private static void linkUsesTheCreditThatIsBack() {
+        Fabric x = new Fabric();
+        x.reset(5, 5, 16);
+        x.addFlow(0, 1, 3, 0);
+        x.addFlow(2, 1, 2, 0);
+        x.pass(8);
+        Check.due("behind tick 7 one waits in an up queue", x.upQueue(0) + x.upQueue(2), 1);
+        Check.due("and none in the down queue", x.downQueue(1), 0);
+        x.pass(1);
+        Check.due("behind tick 8 it is in the down queue", x.downQueue(1), 1);
     }
 }
