@@ -414,9 +414,10 @@ public final class LinksTest {
 
     /** A fabric that is looked at in every tick goes on as one that is not; within the 512 calls of an object. */
     private static void looksChangeNothing() {
-        for (int which = 0; which < 9; which++) {
-            Fabric x = Scenes.busy();
-            Fabric y = Scenes.busy();
+        for (int k = 0; k < 9 * Scenes.BUSY; k++) {
+            int which = k % 9;
+            Fabric x = Scenes.busy(k / 9);
+            Fabric y = Scenes.busy(k / 9);
             for (int tick = 0; tick < 6; tick++) {
                 for (int i = 0; i < 6; i++) {
                     look(x, which, (i + 6 * tick) % 16);

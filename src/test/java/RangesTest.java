@@ -55,16 +55,18 @@ public final class RangesTest {
         x.pass(1 + round);
     }
 
-    /** A refused call on a busy fabric: behind it all goes on as on one that was never asked. */
+    /** A refused call on busy fabrics: behind it all goes on as on those that were never asked. */
     private static void refused(String what, String exception, Consumer<Fabric> call) {
-        Fabric x = Scenes.busy();
-        Fabric y = Scenes.busy();
-        Check.due(what + " throws", Check.thrownBy(() -> call.accept(x)), exception);
-        Check.due("the state behind the refused " + what, Check.look(x), Check.look(y));
-        for (int round = 0; round < 8; round++) {
-            goOn(x, round);
-            goOn(y, round);
-            Check.due("round " + round + " behind the refused " + what, Check.look(x), Check.look(y));
+        for (int kind = 0; kind < Scenes.BUSY; kind++) {
+            Fabric x = Scenes.busy(kind);
+            Fabric y = Scenes.busy(kind);
+            Check.due(what + " throws", Check.thrownBy(() -> call.accept(x)), exception);
+            Check.due("the state behind the refused " + what, Check.look(x), Check.look(y));
+            for (int round = 0; round < 8; round++) {
+                goOn(x, round);
+                goOn(y, round);
+                Check.due("round " + round + " behind the refused " + what, Check.look(x), Check.look(y));
+            }
         }
     }
 

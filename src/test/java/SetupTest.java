@@ -116,18 +116,20 @@ public final class SetupTest {
 
     /** Packets in all kinds of queues, credits on their way, turns, cuts, flows: nothing of it is left. */
     private static void resetForgetsWhatIsBusy() {
-        Fabric x = Scenes.busy();
-        x.reset(2, 3, 16);
-        Fabric y = new Fabric();
-        y.reset(2, 3, 16);
-        Check.due("P2 the state", Check.look(x), Check.look(y));
-        for (int h = 15; h >= 0; h--) {
-            x.addFlow(h, (5 * h + 6) % 16, 100, 0);
-            y.addFlow(h, (5 * h + 6) % 16, 100, 0);
-        }
-        for (int tick = 0; tick < 20; tick++) {
-            Check.due("P2 passed", x.pass(1), y.pass(1));
-            Check.due("P2 the state behind tick " + tick, Check.look(x), Check.look(y));
+        for (int kind = 0; kind < Scenes.BUSY; kind++) {
+            Fabric x = Scenes.busy(kind);
+            x.reset(2, 3, 16);
+            Fabric y = new Fabric();
+            y.reset(2, 3, 16);
+            Check.due("P2 the state", Check.look(x), Check.look(y));
+            for (int h = 15; h >= 0; h--) {
+                x.addFlow(h, (5 * h + 6) % 16, 100, 0);
+                y.addFlow(h, (5 * h + 6) % 16, 100, 0);
+            }
+            for (int tick = 0; tick < 20; tick++) {
+                Check.due("P2 passed", x.pass(1), y.pass(1));
+                Check.due("P2 the state behind tick " + tick, Check.look(x), Check.look(y));
+            }
         }
     }
 
