@@ -33,12 +33,20 @@ final class Check {
         }
     }
 
+    /** Of a text of several lines, such as that of look, the first wrong line is told. */
     static void due(String what, String got, String want) {
         made++;
-        if (!got.equals(want)) {
-            wrong++;
-            System.out.println("  " + what + " answered " + got + ", due is " + want);
+        if (got.equals(want)) {
+            return;
         }
+        wrong++;
+        String[] gotLines = got.split("\n");
+        String[] wantLines = want.split("\n");
+        int at = 0;
+        while (at < gotLines.length - 1 && at < wantLines.length - 1 && gotLines[at].equals(wantLines[at])) {
+            at++;
+        }
+        System.out.println("  " + what + " answered " + gotLines[at] + ", due is " + wantLines[at]);
     }
 
     static void taken(String what, Runnable call) {

@@ -29,6 +29,7 @@ public final class TurnsTest {
         linkWithoutCreditKeepsItsTurn();
         cutNorthLinkKeepsItsTurn();
         cutSouthLinkKeepsItsTurn();
+        looksForgetNoTurn();
         creditsReturnInEachTick();
         placeOfTheSpineGoesRound();
         placeOfTheLastFlowlet();
@@ -350,6 +351,36 @@ public final class TurnsTest {
         x.restore(1, 0);
         x.pass(14);
         Check.due("leaf 3, then leaf 0", deliveredIn(x, 2), "2 1");
+    }
+
+    /** Whatever is asked between the ticks, two hosts go on taking turns at the down link of a third one. */
+    private static void looksForgetNoTurn() {
+        for (int host = 0; host < 16; host++) {
+            int first = host / 4 * 4;
+            int one = host == first ? first + 1 : first;
+            int other = host == first + 3 ? first + 2 : first + 3;
+            Fabric x = new Fabric();
+            x.addFlow(one, host, 5, 0);
+            x.addFlow(other, host, 5, 0);
+            for (int tick = 0; tick < 10; tick++) {
+                x.leastTicks();
+                x.returning();
+                x.queued();
+                x.clock();
+                x.flows();
+                x.open(host);
+                x.usable(host / 4, (host / 4 + 1) % 4);
+                x.upQueue(one);
+                x.upCredits(one);
+                x.downQueue(host);
+                x.northQueue(host / 4, 0);
+                x.southQueue(0, host / 4);
+                x.northCredits(host / 4, 0);
+                x.pass(1);
+                Check.due("P10 of host " + one + " in tick " + tick, x.delivered(0), tick / 2);
+                Check.due("P10 of host " + other + " in tick " + tick, x.delivered(1), Math.max(0, tick - 1) / 2);
+            }
+        }
     }
 
     // ---- credits that return, and the place of a spine
