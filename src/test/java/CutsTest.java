@@ -5,14 +5,17 @@ public final class CutsTest {
         cutStopsTheSouthLink();
         cutOfTheFirstPartLosesNothing();
         creditsReturnOverCutLinks();
+        creditsOnTheirWayAreNotCut();
         cutAndRestoreLeaveAllElse();
         restoreBringsNoCredits();
         firstOfEachQueueIsLost();
+        packetsAreLostAtEachSpine();
         secondOfAQueueIsNotLost();
         packetForAnotherLeafIsNotLost();
         emptyQueueLosesNothing();
         lostPacketGetsANewNumber();
         lostPacketsAreSentTillAllAreDelivered();
+        eachUpLinkGetsAnotherSpine();
         firstPacketAloneGetsAnotherSpine();
         anotherSpineStays();
         anotherSpineIsCutAsWell();
@@ -100,6 +103,30 @@ public final class CutsTest {
         Check.due("P4 it is cut yet", Check.thrownBy(() -> x.cut(0, 0)), "IllegalStateException");
     }
 
+    /** The same, but the credits are on their way already when the links are cut: of the ticks 2 and 3. */
+    private static void creditsOnTheirWayAreNotCut() {
+        for (int delay = 0; delay <= 5; delay++) {
+            Fabric x = new Fabric();
+            x.reset(delay, 5, 8);
+            x.addFlow(0, 4, 1, 0);
+            x.pass(3);
+            x.cut(0, 0);
+            Check.due("P22 up and north, delay " + delay, x.returning(), delay == 0 ? 1 : 2);
+            x.pass(1);
+            x.cut(1, 0);
+            for (int tick = 4; tick <= 11; tick++) {
+                String what = ", delay " + delay + ", before tick " + tick;
+                int back = 0;
+                for (int left = 1; left <= 4; left++) {
+                    back += left < tick && tick <= left + 1 + delay ? 1 : 0;
+                }
+                Check.due("P21 northCredits" + what, x.northCredits(0, 0), tick <= 3 + delay ? 3 : 4);
+                Check.due("P22 returning" + what, x.returning(), back);
+                x.pass(1);
+            }
+        }
+    }
+
     /** Neither a cut nor its end touches what is in the queues and what is on its way. */
     private static void cutAndRestoreLeaveAllElse() {
         for (int i = 0; i < 16 * Scenes.BUSY; i++) {
@@ -154,6 +181,32 @@ public final class CutsTest {
                 Check.due("P11 lost(" + f + ") in " + tick + " ticks", x.lost(f), want);
                 Check.due("P18 north queue of leaf " + leaves[f], x.northQueue(leaves[f], 0), queue[f] - want);
             }
+        }
+    }
+
+    /** "At each spine, for each of its north links": over each of them to each other leaf, and its credit returns. */
+    private static void packetsAreLostAtEachSpine() {
+        for (int i = 0; i < 64; i++) {
+            int spine = i / 16;
+            int leaf = i / 4 % 4;
+            int other = i % 4;
+            if (leaf == other) {
+                continue;
+            }
+            Fabric x = new Fabric();
+            Scenes.onlySpine(x, spine);
+            x.addFlow(4 * leaf + spine, 4 * other, 1, 0);
+            x.pass(2);
+            String what = " over north link " + leaf + " " + spine + " to leaf " + other;
+            Check.due("P18 it is at the spine" + what, x.northQueue(leaf, spine), 1);
+            x.cut(other, spine);
+            x.pass(1);
+            Check.due("P11 lost" + what, x.lost(0), 1);
+            Check.due("P18 it has left the queue" + what, x.northQueue(leaf, spine), 0);
+            Check.due("P24 it is open no more" + what, x.open(4 * other), 0);
+            Check.due("P21 its credit is on its way" + what, x.northCredits(leaf, spine), 3);
+            x.pass(1);
+            Check.due("P21 its credit is back" + what, x.northCredits(leaf, spine), 4);
         }
     }
 
@@ -243,6 +296,29 @@ public final class CutsTest {
         }
         Check.due("P23 queued", x.queued(), 0);
         Check.due("P24 open", x.open(4) + x.open(5) + x.open(6), 0);
+    }
+
+    /** "for each of its up links", whichever end of the path is cut: the place among the three spines that are left. */
+    private static void eachUpLinkGetsAnotherSpine() {
+        for (int source = 0; source < 16; source++) {
+            for (int target = 0; target < 16; target++) {
+                if (source / 4 == target / 4) {
+                    continue;
+                }
+                int sum = 3 * source + 5 * target;
+                int spine = sum % 4;
+                int another = sum % 3 < spine ? sum % 3 : sum % 3 + 1;
+                Fabric x = new Fabric();
+                x.addFlow(source, target, 1, 0);
+                x.pass(1);
+                x.cut((source + target) % 2 == 0 ? source / 4 : target / 4, spine);
+                x.pass(1);
+                String what = " from " + source + " to " + target;
+                Check.due("P18 over spine " + another + what, x.northQueue(source / 4, another), 1);
+                Check.due("P15 spineOf" + what, x.spineOf(0), spine);
+                Check.due("P6 delivered" + what, x.pass(3), 1);
+            }
+        }
     }
 
     /**

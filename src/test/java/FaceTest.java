@@ -54,10 +54,61 @@ public final class FaceTest {
             Check.due(inside.getSimpleName() + " is hidden", Modifier.isPublic(m) || Modifier.isProtected(m) ? 1 : 0, 0);
             Check.due(inside.getSimpleName() + " has some twenty fields",
                     inside.getDeclaredFields().length <= 20 ? 1 : 0, 1);
+            for (Method method : inside.getDeclaredMethods()) {
+                String name = method.getName();
+                boolean open = Arrays.stream(FACE).anyMatch(line -> line.split(" ")[1].equals(name));
+                Check.due("a public method of the name of " + inside.getSimpleName() + "." + name, open ? 1 : 0, 0);
+                Check.due(name + " takes at most seven", method.getParameterCount() <= 7 ? 1 : 0, 1);
+            }
         }
         Check.due("some twelve classes", c.getDeclaredClasses().length <= 12 ? 1 : 0, 1);
-        words(Files.readString(Path.of("src/main/java/Fabricsim.java")));
+        String source = Files.readString(Path.of("src/main/java/Fabricsim.java"));
+        words(source);
+        theDocumentsFace(source.replaceAll("\\s+", " "));
+        theDocumentsParts(source.replaceAll("\\s+", " "));
         Check.finish("FaceTest");
+    }
+
+    /** Each line of the document's public face stands in the source, the names of arguments included, in its order. */
+    private static void theDocumentsFace(String source) throws IOException {
+        String document = Files.readString(Path.of("../shared/DOC.md"));
+        String face = document.split("```java\n")[1].split("```")[0];
+        int behind = 0;
+        int members = 0;
+        for (String line : face.split("\n")) {
+            if (line.contains("public ")) {
+                String want = line.trim().endsWith(");") || line.contains(" throws ")
+                        ? line.trim().replace(";", " {") : line.trim();
+                int at = source.indexOf(want, behind);
+                Check.due(want + ", in its place", at >= 0 ? 1 : 0, 1);
+                behind = Math.max(at, behind);
+                members++;
+            }
+        }
+        Check.due("the class, the constant, the constructor and the methods", members, 3 + FACE.length);
+    }
+
+    /** "Ahead of the calls .. the interface says" what the part of the class is. */
+    private static void theDocumentsParts(String source) {
+        String[][] parts = {
+            {"// ---- setting up ", "reset", "addFlow", "cut", "restore", "pass", "clock"},
+            {"// ---- flows ", "flows", "sent", "delivered", "lost", "outOfOrder", "doneIn", "flowlets", "spineOf"},
+            {"// ---- links ", "upQueue", "downQueue", "northQueue", "southQueue", "upCredits", "northCredits",
+                "returning", "queued", "open", "usable", "leastTicks"},
+        };
+        int calls = 0;
+        for (int i = 0; i < parts.length; i++) {
+            int from = source.indexOf(parts[i][0]);
+            int to = i + 1 < parts.length ? source.indexOf(parts[i + 1][0]) : source.length();
+            Check.due("'" + parts[i][0] + "' is there", from >= 0 && to > from ? 1 : 0, 1);
+            for (int k = 1; k < parts[i].length; k++) {
+                int at = Math.max(source.indexOf("public int " + parts[i][k] + "("),
+                        source.indexOf("public void " + parts[i][k] + "("));
+                Check.due(parts[i][k] + " is behind '" + parts[i][0] + "'", from < at && at < to ? 1 : 0, 1);
+                calls++;
+            }
+        }
+        Check.due("all calls of the face", calls, FACE.length);
     }
 
     private static void methods(Class<?> c) {

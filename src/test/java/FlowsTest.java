@@ -205,6 +205,8 @@ public final class FlowsTest {
         x.pass(1);
         Check.due("P14 a cut behind the spine", x.flowlets(0), 2);
         Check.due("P15 spine behind it", x.spineOf(0), (20 + 13) % 2 == 0 ? 1 : 3);
+        x.pass(1);
+        Check.due("P14 the next packet begins none", x.flowlets(0), 2);
         x.cut(0, 3);
         x.pass(1);
         Check.due("P14 a cut before the spine", x.flowlets(0), 3);

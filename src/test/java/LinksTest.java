@@ -12,8 +12,10 @@ public final class LinksTest {
         queuedAndReturning();
         fourTogether();
         fourTogetherOfANorthLink();
+        fourTogetherWhereSomeAreLost();
         openCountsTarget();
         usableSpines();
+        usableByEachConnection();
         usableRefuses();
         leastByHosts();
         leastByLeaves();
@@ -84,18 +86,25 @@ public final class LinksTest {
                 x.pass(1);
                 dueAlone(x, "up " + source);
                 Check.due("P20 upCredits", x.upCredits(source), 3);
+                Check.due("P22 none has left a queue", x.returning(), 0);
                 x.pass(1);
                 dueAlone(x, "north " + source / 4 + " " + spine);
                 Check.due("P21 northCredits", x.northCredits(source / 4, spine), 3);
+                Check.due("P22 of the up link", x.returning(), 1);
                 x.pass(1);
                 dueAlone(x, "south " + spine + " " + target / 4);
                 Check.due("P24 open", x.open(target), 1);
+                Check.due("P22 of the north link", x.returning(), 1);
                 x.pass(1);
                 dueAlone(x, "down " + target);
+                Check.due("P22 of the south link", x.returning(), 1);
                 x.pass(1);
                 dueAlone(x, "");
                 Check.due("P24 open", x.open(target), 0);
+                Check.due("P22 of the down link", x.returning(), 1);
                 Check.due("P13 doneIn", x.doneIn(0), 4);
+                x.pass(1);
+                Check.due("P22 all are back", x.returning(), 0);
             }
         }
     }
@@ -154,11 +163,18 @@ public final class LinksTest {
     }
 
     private static void queuedAndReturning() {
+        queuesAddUp(1);
+        queuesAddUp(2);
+    }
+
+    /** So many hosts of a leaf send to each target at another leaf; with two of them packets wait for one another. */
+    private static void queuesAddUp(int senders) {
         Fabric x = new Fabric();
         x.reset(3, 5, 16);
         for (int h = 0; h < 16; h++) {
-            x.addFlow(h, (h + 6) % 16, 30, 0);
+            x.addFlow(h, (h / 4 * 4 + 4 + h % 4 / senders) % 16, 30, 0);
         }
+        int longest = 0;
         for (int i = 0; i < 120; i++) {
             x.pass(1);
             int sum = 0;
@@ -166,10 +182,12 @@ public final class LinksTest {
             for (int h = 0; h < 16; h++) {
                 sum += x.upQueue(h) + x.downQueue(h) + x.northQueue(h / 4, h % 4) + x.southQueue(h / 4, h % 4);
                 open += x.open(h);
+                longest = Math.max(longest, Math.max(x.upQueue(h), x.southQueue(h / 4, h % 4)));
             }
             Check.due("P23 queued", x.queued(), sum);
             Check.due("P24 open of all hosts", open, sum);
         }
+        Check.due("P23 more than one in a queue, senders " + senders, longest > 1 ? 1 : 0, senders > 1 ? 1 : 0);
         x.pass(200);
         Check.due("P23 queued at the end", x.queued(), 0);
         Check.due("P22 returning at the end", x.returning(), 0);
@@ -223,6 +241,41 @@ public final class LinksTest {
         }
     }
 
+    /**
+     * The same where packets of the north link 0-0 wait at the spine, and every few ticks the way to leaf 1 is cut: then
+     * two leave the queue in one tick, the first one, which is lost, and the one behind it, for leaf 2.
+     */
+    private static void fourTogetherWhereSomeAreLost() {
+        int pairs = 0;
+        for (int delay = 0; delay <= 5; delay++) {
+            Fabric x = new Fabric();
+            x.reset(delay, 5, 16);
+            Scenes.onlySpine0(x);
+            int[] sources = {0, 1, 2, 3, 8, 9, 12, 13};
+            int[] targets = {4, 5, 9, 10, 4, 5, 6, 7};
+            for (int i = 0; i < sources.length; i++) {
+                x.addFlow(sources[i], targets[i], 100, 0);
+            }
+            int[] left = new int[60];
+            for (int tick = 0; tick < left.length; tick++) {
+                if (tick % 7 == 6) {
+                    x.cut(1, 0);
+                } else if (tick % 7 == 2 && tick > 6) {
+                    x.restore(1, 0);
+                }
+                x.pass(1);
+                for (int h = 0; h < 4; h++) {
+                    left[tick] += x.sent(h) - x.upQueue(h);
+                }
+                left[tick] -= x.northQueue(0, 0);
+                int back = left[tick] - (tick > delay ? left[tick - 1 - delay] : 0);
+                Check.due("P21 tick " + tick + ", delay " + delay, x.northCredits(0, 0) + x.northQueue(0, 0) + back, 4);
+                pairs += tick > 0 && left[tick] - left[tick - 1] == 2 && x.northQueue(0, 0) > 0 ? 1 : 0;
+            }
+        }
+        Check.due("P11 two left in one tick, and others waited", pairs > 0 ? 1 : 0, 1);
+    }
+
     private static void openCountsTarget() {
         Fabric x = new Fabric();
         x.addFlow(0, 1, 2, 0);
@@ -259,6 +312,33 @@ public final class LinksTest {
         }
     }
 
+    /** Each connection is cut and restored by itself, in any order, and beside any others that are cut. */
+    private static void usableByEachConnection() {
+        Fabric x = new Fabric();
+        boolean[] cut = new boolean[16];
+        int next = 5;
+        for (int step = 0; step < 200; step++) {
+            next = (next * 7 + step) % 16;
+            if (cut[next]) {
+                x.restore(next / 4, next % 4);
+            } else {
+                x.cut(next / 4, next % 4);
+            }
+            cut[next] = !cut[next];
+            for (int i = 0; i < 16; i++) {
+                int leaf = i / 4;
+                int other = i % 4;
+                int want = 0;
+                for (int s = 0; s < 4; s++) {
+                    want += cut[4 * leaf + s] || cut[4 * other + s] ? 0 : 1 << s;
+                }
+                if (leaf != other) {
+                    Check.due("P25 usable " + leaf + " " + other + ", step " + step, x.usable(leaf, other), want);
+                }
+            }
+        }
+    }
+
     private static void usableRefuses() {
         Fabric x = new Fabric();
         for (int w : new int[] {-1, 4, FAR[0], FAR[1]}) {
@@ -288,6 +368,10 @@ public final class LinksTest {
         y.addFlow(0, 15, 4, 0);
         y.addFlow(1, 15, 4, 0);
         Check.due("P26 the last host as target", y.leastTicks(), 8);
+        Fabric z = new Fabric();
+        z.addFlow(2, 3, 7, 0);
+        z.addFlow(3, 2, 5, 0);
+        Check.due("P26 what a host sends and what it gets are apart", z.leastTicks(), 7);
     }
 
     private static void leastByLeaves() {

@@ -291,6 +291,11 @@ public final class RangesTest {
             Check.illegalState("P4 cut again " + leaf + " " + spine, x, () -> x.cut(leaf, spine));
             Check.due("P5 it is cut once", x.restore(leaf, spine), 0);
             Check.taken("P4 cut when it is restored", () -> x.cut(leaf, spine));
+            for (int k = 1; k < 4; k++) {
+                int next = k;
+                Check.taken("P4 cut of another spine of the leaf", () -> x.cut(leaf, (spine + next) % 4));
+                Check.taken("P4 cut of another leaf at the spine", () -> x.cut((leaf + next) % 4, spine));
+            }
         }
         refused("P4 cut of what is cut", STATE, x -> x.cut(0, 2));
         refused("P4 cut of what else is cut", STATE, x -> x.cut(3, 1));

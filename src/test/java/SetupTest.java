@@ -122,9 +122,11 @@ public final class SetupTest {
             Fabric y = new Fabric();
             y.reset(2, 3, 16);
             Check.due("P2 the state", Check.look(x), Check.look(y));
-            for (int h = 15; h >= 0; h--) {
-                x.addFlow(h, (5 * h + 6) % 16, 100, 0);
-                y.addFlow(h, (5 * h + 6) % 16, 100, 0);
+            for (int i = 23; i >= 0; i--) {
+                int target = (5 * i + 6) % 16 == i % 16 ? 1 : (5 * i + 6) % 16 / 2;
+                target = target == i % 16 ? 15 : target;
+                x.addFlow(i % 16, target, 100, 0);
+                y.addFlow(i % 16, target, 100, 0);
             }
             for (int tick = 0; tick < 20; tick++) {
                 Check.due("P2 passed", x.pass(1), y.pass(1));
@@ -168,6 +170,9 @@ public final class SetupTest {
         y.reset(5, 1, 16);
         y.addFlow(0, 12, 100, 0);
         Check.due("P2 the flow begins anew", Check.look(x), Check.look(y));
+        Check.due("P2 doneIn", x.doneIn(0), Fabricsim.NONE);
+        Check.due("P2 spineOf", x.spineOf(0), Fabricsim.NONE);
+        Check.due("P2 what was counted", x.sent(0) + x.delivered(0) + x.lost(0) + x.outOfOrder(0) + x.flowlets(0), 0);
         x.reset(5, 1, 16);
         lossyRun(x);
         Fabric z = new Fabric();

@@ -45,18 +45,26 @@ public final class TickTest {
         }
     }
 
-    /** The link does not look behind the first packet of a queue. */
+    /**
+     * "whose first packet wants the link": the second packet of flow 0 waits for its turn behind the hosts 2 and 3
+     * till tick 4, and flow 1, behind it in the queue from tick 2 on, can't go down to host 3, which is free.
+     */
     private static void firstPacketBlocksTheQueue() {
         Fabric x = new Fabric();
         x.addFlow(0, 1, 2, 0);
-        x.addFlow(0, 3, 1, 1);
-        x.addFlow(2, 1, 2, 0);
-        x.pass(2);
+        x.addFlow(0, 3, 1, 2);
+        x.addFlow(2, 1, 1, 0);
+        x.addFlow(3, 1, 1, 0);
+        x.pass(3);
+        Check.due("up queue of host 0: flow 0, and flow 1 behind it", x.upQueue(0), 2);
         x.pass(1);
-        Check.due("behind tick 2", delivered(x), "1 0 0");
-        Check.due("up queue of host 0: flow 1 has left in tick 2", x.upQueue(0), 1);
-        x.pass(1);
-        Check.due("behind tick 3", delivered(x), "1 1 1");
+        Check.due("up queue of host 0 behind tick 3", x.upQueue(0), 2);
+        Check.due("down queue of host 3", x.downQueue(3), 0);
+        String[] want = {"1 0 1 1", "2 0 1 1", "2 1 1 1"};
+        for (String w : want) {
+            x.pass(1);
+            Check.due("delivered behind tick " + (x.clock() - 1), delivered(x), w);
+        }
     }
 
     /** Packets for host 4 from its own leaf (up queues) and from spines 0 and 3 (south queues) at once. */
@@ -236,18 +244,20 @@ public final class TickTest {
         Check.due("flowlets", x.flowlets(0), 1);
     }
 
+    /** 5 * 6 = 30 leads over spine 2; among 0 and 2 the place would be the first, but it needs no other spine. */
     private static void keepsItsSpineIfRestored() {
         Fabric x = new Fabric();
-        x.addFlow(0, 4, 1, 0);
+        x.addFlow(0, 6, 1, 0);
         x.pass(1);
+        Check.due("its own spine", x.spineOf(0), 2);
         for (int s = 0; s < 4; s++) {
             x.cut(0, s);
         }
         x.pass(5);
         x.restore(0, 0);
-        x.restore(0, 1);
+        x.restore(0, 2);
         x.pass(1);
-        Check.due("over its own spine again", x.northQueue(0, 0), 1);
+        Check.due("over its own spine again", x.northQueue(0, 2), 1);
 
         Fabric y = new Fabric();
         y.addFlow(0, 4, 1, 0);

@@ -76,6 +76,15 @@ public final class TurnsTest {
         x.addFlow(0, 2, 2, 0);
         x.addFlow(0, 3, 2, 0);
         Check.due("flows of host 0, the first one late", sentIn(x, 6), "1 2 0 1 2 0");
+        for (int others = 0; others < 3; others++) {
+            Fabric y = new Fabric();
+            for (int i = 0; i < others; i++) {
+                y.addFlow(1, 2, 1, 9);
+            }
+            y.addFlow(0, 1, 1, 0);
+            y.addFlow(0, 2, 1, 0);
+            Check.due("flows of host 0 behind others", sentIn(y, 2), others + " " + (others + 1));
+        }
     }
 
     /** "the next one behind the flow that the host picked last, by rising numbers", from the last to the first. */
@@ -123,6 +132,11 @@ public final class TurnsTest {
         x.addFlow(0, 2, 2, 0);
         x.addFlow(5, 7, 2, 0);
         Check.due("flows of hosts 0 and 5", sentIn(x, 4), "0+1 2+3 0+1 2+3");
+        Fabric y = new Fabric();
+        y.addFlow(0, 1, 3, 0);
+        y.addFlow(5, 6, 2, 0);
+        y.addFlow(5, 7, 2, 0);
+        Check.due("host 0 has one flow, host 5 has two", sentIn(y, 4), "0+1 0+2 0+1 2");
     }
 
     // ---- a leaf and its down links
